@@ -23,6 +23,7 @@ public final class RopesAtDawn {
     private static final int FIRST_START = 60;
     private static final int LATEST_ASKED = 9999;
     private static final int MOST_MORNINGS = 40;
+    private static final int THOUSAND = 1000;
     private static final int MOST_BYTES = 50;
     private static final int MOST_OPEN = 5;
     private static final int MOST_WAITING = 20;
@@ -97,8 +98,8 @@ public final class RopesAtDawn {
 
     private final Dawn now = new Dawn();
     private final Crossing crossing = new Crossing();
-    private final Chooser chooser = new Chooser(crossing);
-    private final Reader reader = new Reader(now.tape);
+    private final Chooser chooser = new Chooser();
+    private final Reader reader = new Reader();
     private final Voices voices = new Voices();
     private final Sheet[] sheets = new Sheet[MOST_SHEETS];
     private final int[] errors = new int[ERROR_KINDS + 1];
@@ -321,7 +322,7 @@ public final class RopesAtDawn {
         if (!isUse(use)) {
             return fail(BEYOND);
         }
-        int fault = reader.read(use == RISK_USE ? RISK_NAMES : HAUL_NAMES);
+        int fault = reader.read(now.tape, use == RISK_USE ? RISK_NAMES : HAUL_NAMES);
         now.tape.empty();
         if (fault >= 0) {
             return -10 - fault;
@@ -740,7 +741,7 @@ public final class RopesAtDawn {
                     continue;
                 }
                 int risk = crossing.riskOf(now, rope, person, piece, before + place);
-                if (now.draw() % MOST_RISK < risk && !now.isHeld(rope, place, piece)) {
+                if (now.draw() % THOUSAND < risk && !now.isHeld(rope, place, piece)) {
                     lost |= bare ? bit : row.bits();
                 }
             }
@@ -1074,17 +1075,14 @@ public final class RopesAtDawn {
     /** Reads a text into codes. */
     static final class Reader {
         final Row codes = new Row(MOST_BYTES);
-        private final Row tape;
+        private Row tape = new Row(0);
         private String names = "";
         private int place = 0;
         private boolean wrong = false;
 
-        Reader(Row tape) {
-            this.tape = tape;
-        }
-
         /** The place of the fault, -1 if there is none. */
-        int read(String allowed) {
+        int read(Row bytes, String allowed) {
+            tape = bytes;
             names = allowed;
             place = 0;
             wrong = false;
@@ -1366,11 +1364,7 @@ public final class RopesAtDawn {
         int choice = -1;
         int least = 0;
         private final Dawn trial = new Dawn();
-        private final Crossing crossing;
-
-        Chooser(Crossing crossing) {
-            this.crossing = crossing;
-        }
+        private final Crossing crossing = new Crossing();
 
         private void begin(Dawn dawn) {
             trial.copyFrom(dawn);
