@@ -22,6 +22,7 @@ public final class BestBoundsTest {
         lead();
         leadOfSeveral();
         take();
+        takeWhatIsBest();
         B.end("BestBoundsTest");
     }
 
@@ -80,6 +81,11 @@ public final class BestBoundsTest {
         B.takes("order(0, -1)", 80, "order(0, 0)", 0, "order(0, 1)", 1, "order(0, 2)", 2, "order(0, 3)", 3);
         B.from(tied(weak("w*!b", 0, 1, 60, 50, 50, 60), 0, 3, 2, 1, 0));
         B.takes("order(0, -1)", 200, "order(0, 0)", 1, "order(0, 1)", 0, "order(0, 2)", 2, "order(0, 3)", 3);
+        B.says(28, "of all orders of its PEOPLE: the last of 120, the last but one");
+        B.from(tied(weak("w*(5-b)", 0, 1, 90, 80, 70, 60, 50), 0, 0, 1, 2, 3, 4));
+        B.takes("order(0, 0)", 4, "order(0, 1)", 3, "order(0, 2)", 2, "order(0, 3)", 1, "order(0, 4)", 0);
+        B.from(tied(weak("w*(5-b)", 0, 1, 80, 90, 70, 60, 50), 0, 0, 1, 2, 3, 4));
+        B.takes("order(0, 0)", 4, "order(0, 1)", 3, "order(0, 2)", 2, "order(0, 3)", 0, "order(0, 4)", 1);
         B.says(28, "a ROPE of one, a ROPE of none");
         B.from(tied(weak("w", 0, 2, 60), 0, 0));
         B.takes("order(0, -1)", 60, "order(0, 0)", 0, "order(1, -1)", 60, "order(1, 0)", Dues.NONE);
@@ -150,9 +156,23 @@ public final class BestBoundsTest {
         B.says(30, "ROPES without PEOPLE stand in it, too");
         B.from(tied(weak("w*!b", 0, 3, 50, 60), 2, 0), "tie(1, 1)");
         B.takes("line(-1)", 50, "line(0)", 0, "line(1)", 2, "line(2)", 1);
+        B.says(30, "of all orders of the ROPES: the last of 720, the last but one");
+        B.from(oneEach(90, 85, 80, 70, 60, 50));
+        B.takes("line(0)", 5, "line(1)", 4, "line(2)", 3, "line(3)", 2, "line(4)", 1, "line(5)", 0);
+        B.from(oneEach(85, 90, 80, 70, 60, 50));
+        B.takes("line(0)", 5, "line(1)", 4, "line(2)", 3, "line(3)", 2, "line(4)", 0, "line(5)", 1);
         B.says(30, "of the ROPES in THE LINE alone");
         B.from(same, "clear()", "join(3)", "join(1)");
         B.takes("line(-1)", 5, "line(0)", 1, "line(1)", 3, "line(2)", Dues.NONE);
+    }
+
+    /** Each alone on a rope, with a risk that is less the later one goes. */
+    private static String[] oneEach(int... weights) {
+        String[] calls = weak("w*(9-b)", 0, weights.length, weights);
+        for (int i = 0; i < weights.length; i++) {
+            calls = tied(calls, i, i);
+        }
+        return calls;
     }
 
     private static void parts() {
@@ -268,6 +288,8 @@ public final class BestBoundsTest {
         B.refuses("left()", Dues.NONE);
         B.from(Worlds.RICH, "clear()", "join(2)");
         B.refuses("left()", Dues.NONE);
+        B.from(Worlds.RICH, "left()", "space(0)", "clear()");
+        B.refuses("left()", Dues.NONE);
         B.from(Worlds.RICH, "clear()", "join(2)", "join(3)");
         B.takes("left()", 6, "ofRope(3, 3)", 1);
     }
@@ -343,5 +365,17 @@ public final class BestBoundsTest {
         B.takes("take(1, 2)", 1137, "ofRope(2, 1)", 1);
         B.from(Worlds.EMPTY);
         B.refuses("take(2, 0)", Dues.BEYOND);
+    }
+
+    private static void takeWhatIsBest() {
+        B.says(36, "What of THE LINE was best comes to be: TOLL then");
+        String[] two = tied(tied(weak("w*!b", 1, 2, 70, 60, 50), 0, 0, 1), 1, 2);
+        B.from(two);
+        B.takes("take(0, 0)", 120, "ofRope(0, 5)", 1, "ofRope(0, 6)", 0, "ofRope(0, 1)", 3, "ofRope(0, 4)", 0, "toll()", 120);
+        B.takes("take(1, 0)", 0, "ofRope(0, 1)", 14, "ofRope(1, 1)", 3, "ofRope(0, 5)", 0, "ofRope(0, 4)", 0, "toll()", 0);
+        B.takes("take(2, 0)", 50, "ofRope(0, 4)", 1, "ofRope(1, 4)", 0, "ofRope(0, 5)", 0, "ofRope(0, 1)", 3, "toll()", 50);
+        B.says(36, "what is best already stays");
+        B.from(two, "take(0, 0)", "take(1, 0)", "take(2, 1)");
+        B.takes("take(0, 0)", 0, "ofRope(0, 5)", 1, "take(1, 0)", 0, "ofRope(0, 1)", 12, "take(2, 0)", 0, "ofRope(0, 4)", 0);
     }
 }

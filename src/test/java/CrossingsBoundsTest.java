@@ -210,6 +210,9 @@ public final class CrossingsBoundsTest {
         B.takes("toll()", 0, "piece(0, 99, 0, 1)", 0, "toll()", 1);
         B.from(WAY);
         B.takes("toll()", 0, "join(3)", 0, "toll()", 0);
+        B.says(27, "BEFORE: all of ROPES ahead in THE LINE, of the third ROPE");
+        B.from(ROPES, "join(2)", "join(1)", "join(3)", "join(0)", "tape 100*(b=3)", "text(0)", "piece(0, 0, 0, 1)");
+        B.takes("toll()", 100, "untie(2)", 2, "toll()", 0);
         B.says(27, "RISK times COST: nothing of one who is HELD");
         B.from(ROPES, "join(1)", "tape 10", "text(0)", "piece(0, 0, 0, 1)", "person(50, 90, 1, 0)", "person(50, 89, 1, 0)");
         B.takes("toll()", 10, "tie(1, 4)", 1, "toll()", 20, "untie(4)", 1, "tie(1, 5)", 1, "toll()", 40);

@@ -103,6 +103,17 @@ public final class MorningsBoundsTest {
         B.from(weak("1000*(b<2)+1000*(b=3)", 0, 2, 1), "rope(6, 1, 0)", "join(1)", "person(100, 0, 1, 0)", "person(100, 0, 1, 0)",
             "tie(1, 2)", "tie(1, 3)");
         B.takes("morning()", 3 + 8, "count(8)", 662824084);
+        B.says(37, "BEFORE: all of ROPES ahead in THE LINE, of the third ROPE");
+        B.from(weak("1000*(b=3)", 6, 2, 1), "rope(6, 1, 0)", "rope(6, 1, 0)", "join(1)", "join(2)", "person(50, 0, 1, 0)",
+            "person(50, 0, 1, 0)", "tie(1, 2)", "tie(2, 3)");
+        B.takes("morning()", 8);
+        B.says(37, "HOUR of the CROSSING, which nobody asked about ahead");
+        for (int start : new int[] {598, 599, 600}) {
+            B.from(weak("1000*(h=10)", 6, 1, 2), "start(" + start + ")");
+            B.takes("morning()", start >= 599 ? 1 : 0);
+        }
+        B.from(weak("1000*(h=10)", 6, 1, 1), "start(659)");
+        B.takes("morning()", 1, "start(660)", 659, "morning()", 0, "start(599)", 660, "morning()", 0);
     }
 
     private static void mornings() {
@@ -165,6 +176,7 @@ public final class MorningsBoundsTest {
         answers(3, MAX, MIN + 6, 12, MIN + 8, 12 ^ MIN + 8);
         answers(3, MIN, MIN + 9, 18, MIN + 7, 18 ^ MIN + 7);
         answers(4, MAX, MIN + 1, 2, MAX - 7, (2 ^ MAX - 7) - 4);
+        answers(5, 0, 0, 0, -7, (-7 - 6) * 5);
         answers(5, MAX, MIN + 3, 6, MAX - 7, ((6 ^ MAX - 7) - 6) * 5);
         answers(6, MIN, MIN + 2, 0, MAX - 4, MAX - 4);
         answers(6, MAX, MIN + 1, 0, MAX - 5, MAX - 5);
@@ -200,6 +212,8 @@ public final class MorningsBoundsTest {
         B.from(Worlds.EMPTY, "rope(5, 1, 0)", "voice(0, 3, 9)");
         B.takes("count(7)", 9, "trace(0)", 61, "trace(1)", 50, "trace(2)", 13, "trace(3)", 11, "trace(4)", 60, "trace(5)", 10,
             "trace(6)", 12, "trace(7)", 60, "trace(8)", 10, "trace(9)", Dues.NONE);
+        B.from(Worlds.EMPTY, "rope(6, 1, 0)", "voice(0, 3, 9)");
+        B.takes("count(7)", 4, "trace(0)", 13, "trace(1)", 70, "trace(2)", 71, "trace(3)", 12, "trace(4)", Dues.NONE);
         B.from(Worlds.EMPTY, "rope(3, 1, 0)", "voice(0, 3, 9)");
         B.takes("count(7)", 7, "trace(1)", 11, "trace(2)", 41, "trace(3)", 30, "trace(4)", 10, "trace(5)", 40, "trace(6)", 12);
     }

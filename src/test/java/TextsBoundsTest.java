@@ -91,6 +91,9 @@ public final class TextsBoundsTest {
         B.says(20, "without one ahead there is none behind a FAULT");
         B.from(Worlds.EMPTY, "tape 1+");
         B.takes("text(0)", -12, "law(0, 100, 5, 1, 50)", 60);
+        B.says(20, "a TEXT is read behind a FAULT");
+        B.from(Worlds.EMPTY, "tape (((((1+", "text(0)", "tape (((((7)))))");
+        B.takes("text(0)", 1, "law(0, 0, 0, 0, 0)", 7);
     }
 
     /** The fault of a text of use 0, -1 if it has none. */
@@ -338,6 +341,18 @@ public final class TextsBoundsTest {
         gives("w>h", "7, 7, 0, 0", 0);
         gives("w=h", "7, 7, 0, 0", 1);
         gives("w=h", "7, 8, 0, 0", 0);
+        B.says(21, "1 or 0, with which one goes on");
+        String[] none = {"(w|h)", "(h&w)", "(h<w)", "(w=h)", "(w>h)", "!h"};
+        String[] one = {"(h|w)", "(h&h)", "(w<h)", "(w=w)", "(h>w)", "!w"};
+        for (int i = 0; i < one.length; i++) {
+            gives(none[i] + "+5", i == 0 ? "0, 0, 0, 0" : "0, 8, 0, 0", 5);
+            gives(one[i] + "+5", "0, 8, 0, 0", 6);
+        }
+        B.says(21, "T: A { | A }. A: B { & B }: & binds more than |");
+        gives("1|0&0", "0, 0, 0, 0", 1);
+        gives("0&0|1", "0, 0, 0, 0", 1);
+        gives("1&0|0", "0, 0, 0, 0", 0);
+        B.says(21, "< > over all ints");
         gives("w<h", "MIN, MAX, 0, 0", 1);
         gives("w>h", "MIN, MAX, 0, 0", 0);
     }

@@ -6,6 +6,7 @@ public final class ToldBoundsTest {
     public static void main(String[] args) {
         image();
         imageOfNothing();
+        imageOfTexts();
         imageIsLeftOut();
         restore();
         tell();
@@ -44,6 +45,16 @@ public final class ToldBoundsTest {
         B.takes("restore()", 60, "count(1)", 10, "count(2)", 8, "count(3)", 6, "count(4)", 6, "count(5)", 50, "count(6)", 20, "count(8)", 1,
             "ofPerson(9, 0)", 83, "ofPiece(7, 3)", 6, "ofRope(5, 2)", 8, "ofRope(0, 5)", 0, "ofRope(0, 9)", 4, "ofRope(4, 4)", 5,
             "tie(0, 9)", Dues.FULL, "tell(0)", Dues.FULL, "feed(0, 1)", Dues.FULL, "text(0)", 1, "law(0, 7, 0, 0, 0)", 40, "check()", 10);
+    }
+
+    private static void imageOfTexts() {
+        B.says(46, "All is as the IMAGE has it: TEXTS of both USES");
+        B.from(Worlds.RICH);
+        B.takes("law(0, 9, 8, 7, 6)", 143, "restore()", 30, "law(0, 9, 8, 7, 6)", 73, "text(0)", 1, "law(0, 9, 8, 7, 6)", 49);
+        B.takes("law(1, 9, 8, 7, 6)", 14, "restore()", 30, "law(1, 9, 8, 7, 6)", 17);
+        B.says(46, "All is as the IMAGE has it: no TEXTS");
+        B.from(Worlds.FULL, "text(0)", "tape 9", "text(1)");
+        B.takes("law(0, 9, 8, 7, 6)", 42, "law(1, 9, 8, 7, 6)", 9, "restore()", 60, "law(0, 9, 8, 7, 6)", 73, "law(1, 9, 8, 7, 6)", 14);
     }
 
     private static void imageIsLeftOut() {
@@ -87,38 +98,39 @@ public final class ToldBoundsTest {
         B.takes("check()", 10, "tell(0)", 1);
     }
 
+    /** Those numbers wait, and no others. */
+    private static void waits(String... numbers) {
+        String[] calls = Worlds.with(Worlds.RICH, "check()");
+        for (String n : numbers) {
+            calls = Worlds.with(calls, "tell(" + n + ")");
+        }
+        B.from(calls);
+    }
+
     private static void check() {
         B.says(48, "the numbers that wait are PEOPLE on ROPES in THE LINE in the order in which they go: 0 (none do then)");
         B.from(Worlds.RICH);
         B.takes("check()", 0, "count(6)", 0, "check()", 1, "count(6)", 0);
         B.says(48, "else 1 and the place (from 0) of the first that isn't so");
-        String[] none = Worlds.with(Worlds.RICH, "check()");
-        int[] row = {1, 0, 2, 3, 4};
-        for (int wrong = 0; wrong < row.length; wrong++) {
-            for (String v : new String[] {"5", "-1", "MIN"}) {
-                B.from(none);
-                for (int i = 0; i < row.length; i++) {
-                    none = Worlds.with(none, "tell(" + (i == wrong ? v : String.valueOf(row[i])) + ")");
-                }
-                B.from(none);
-                B.takes("check()", wrong + 1, "count(6)", 0);
-                none = Worlds.with(Worlds.RICH, "check()");
+        String[] go = {"1", "0", "2", "3", "4"};
+        for (int place = 0; place < go.length; place++) {
+            for (String wrong : new String[] {"5", "-1", "MIN"}) {
+                String[] numbers = go.clone();
+                numbers[place] = wrong;
+                waits(numbers);
+                B.takes("check()", place + 1, "count(6)", 0);
             }
         }
         B.says(48, "or is missing");
-        for (int size = 0; size < row.length; size++) {
-            String[] told = none;
-            for (int i = 0; i < size; i++) {
-                told = Worlds.with(told, "tell(" + row[i] + ")");
-            }
-            B.from(told);
+        for (int size = 0; size < go.length; size++) {
+            waits(java.util.Arrays.copyOf(go, size));
             B.takes("check()", size + 1, "count(6)", 0);
         }
         B.says(48, "one too many isn't so");
-        B.from(Worlds.RICH, "tell(6)");
-        B.takes("check()", 6);
-        B.from(Worlds.RICH, "tell(-1)");
-        B.takes("check()", 6);
+        waits("1", "0", "2", "3", "4", "6");
+        B.takes("check()", 6, "count(6)", 0);
+        waits("1", "0", "2", "3", "4", "-1");
+        B.takes("check()", 6, "count(6)", 0);
     }
 
     private static void checkOfNobody() {
