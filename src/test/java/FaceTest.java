@@ -56,7 +56,13 @@ public final class FaceTest {
             checkNames(dues, inside, names);
         }
         checkNames(dues, RopesAtDawn.class, names);
+        checkFields(dues, RopesAtDawn.class);
+        dues.due("at most twelve classes", RopesAtDawn.class.getDeclaredClasses().length <= 12, true);
+        for (Class<?> inside : RopesAtDawn.class.getDeclaredClasses()) {
+            checkFields(dues, inside);
+        }
         checkSource(dues);
+        checkLengths(dues);
         dues.end("FaceTest");
     }
 
@@ -77,6 +83,41 @@ public final class FaceTest {
             dues.due(m + " has at most seven parameters", m.getParameterCount() <= 7, true);
             if (Modifier.isPrivate(m.getModifiers()) || of != RopesAtDawn.class) {
                 dues.due(m + " bears no public name", names.contains(m.getName()), false);
+            }
+        }
+    }
+
+    /** Rules 5 and 11: static fields are constants of a few types, and a class has some twenty others at most. */
+    private static void checkFields(Dues dues, Class<?> of) {
+        List<Class<?>> constants = List.of(int.class, long.class, boolean.class, char.class, String.class,
+            int[].class, long[].class, char[].class, byte[].class);
+        int others = 0;
+        for (Field f : of.getDeclaredFields()) {
+            if (Modifier.isStatic(f.getModifiers())) {
+                dues.due(f + " is final", Modifier.isFinal(f.getModifiers()), true);
+                dues.due(f + " is of a constant's type", constants.contains(f.getType()), true);
+            } else {
+                others++;
+            }
+        }
+        dues.due(of + " has at most twenty fields", others <= 20, true);
+    }
+
+    /** Rule 11: no method is longer than sixty lines. */
+    private static void checkLengths(Dues dues) throws Exception {
+        List<String> lines = Files.readAllLines(Path.of("src/main/java/RopesAtDawn.java"));
+        int begun = -1;
+        String end = "";
+        for (int i = 0; i < lines.size(); i++) {
+            String line = lines.get(i);
+            String body = line.strip();
+            String indent = line.substring(0, line.length() - line.stripLeading().length());
+            if (begun < 0 && indent.length() >= 4 && body.endsWith(") {")) {
+                begun = i;
+                end = indent + "}";
+            } else if (begun >= 0 && line.equals(end)) {
+                dues.due("the method of line " + (begun + 1) + " is short", i - begun <= 60, true);
+                begun = -1;
             }
         }
     }

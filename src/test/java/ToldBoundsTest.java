@@ -37,7 +37,7 @@ public final class ToldBoundsTest {
 
     private static void imageOfNothing() {
         B.says(46, "All is as the IMAGE has it: nothing");
-        B.from(Worlds.FULL);
+        B.from(Worlds.FULL_FROM_NOTHING);
         B.takes("restore()", 60, "count(0)", 60, "count(1)", 0, "count(2)", 0, "count(3)", 0, "count(4)", 0, "count(5)", 0, "count(6)", 0,
             "count(8)", 1, "person(50, 5, 6, 0)", 0, "piece(0, 1, 2, 3)", 0, "rope(0, 1, 0)", 0, "ofRope(0, 3)", 0, "tie(0, 0)", 0);
         B.says(45, "All is kept: as much as there may be");
@@ -53,7 +53,7 @@ public final class ToldBoundsTest {
         B.takes("law(0, 9, 8, 7, 6)", 143, "restore()", 30, "law(0, 9, 8, 7, 6)", 73, "text(0)", 1, "law(0, 9, 8, 7, 6)", 49);
         B.takes("law(1, 9, 8, 7, 6)", 14, "restore()", 30, "law(1, 9, 8, 7, 6)", 17);
         B.says(46, "All is as the IMAGE has it: no TEXTS");
-        B.from(Worlds.FULL, "text(0)", "tape 9", "text(1)");
+        B.from(Worlds.FULL_FROM_NOTHING, "text(0)", "tape 9", "text(1)");
         B.takes("law(0, 9, 8, 7, 6)", 42, "law(1, 9, 8, 7, 6)", 9, "restore()", 60, "law(0, 9, 8, 7, 6)", 73, "law(1, 9, 8, 7, 6)", 14);
     }
 

@@ -21,14 +21,17 @@ final class Twins {
 
     /** A call is refused with an error, is counted as that, and has changed nothing else. */
     static void refuse(Dues dues, String words, String[] world, String call, int error) {
-        Twins shown = new Twins(dues, words + ": " + call, world);
-        shown.refuse(call, error);
-        shown.askWhatIsShown();
-        shown.askTexts();
-        Twins kept = new Twins(dues, words + ": " + call, world);
-        kept.refuse(call, error);
-        kept.askSheets();
-        kept.askImage();
+        // New twins for each, and what can't be refused first: a call that is refused to both would hide a change.
+        refused(dues, words, world, call, error).askWhatIsShown();
+        refused(dues, words, world, call, error).askTexts();
+        refused(dues, words, world, call, error).askSheets();
+        refused(dues, words, world, call, error).askImage();
+    }
+
+    private static Twins refused(Dues dues, String words, String[] world, String call, int error) {
+        Twins twins = new Twins(dues, words + ": " + call, world);
+        twins.refuse(call, error);
+        return twins;
     }
 
     private void refuse(String call, int error) {
@@ -109,8 +112,13 @@ final class Twins {
         same("count", 6);
     }
 
-    /** How long sheets are shows in moves of nothing, what stands on them in who comes from them. */
+    /** What stands on sheets shows in who comes from them, how long they are in moves of nothing. */
     private void askSheets() {
+        same("restore");
+        for (int sheet = 0; sheet < 4; sheet++) {
+            same("people", sheet);
+        }
+        askAll("ofPerson", same("count", 1), 4);
         for (int sheet = 0; sheet < 4; sheet++) {
             for (int to = 0; to < 4; to++) {
                 same("move", sheet, 0, to, 0, 0);
@@ -120,11 +128,6 @@ final class Twins {
                 size++;
             }
         }
-        same("restore");
-        for (int sheet = 0; sheet < 4; sheet++) {
-            same("people", sheet);
-        }
-        askAll("ofPerson", same("count", 1), 4);
     }
 
     private void askImage() {

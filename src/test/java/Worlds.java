@@ -6,12 +6,13 @@ final class Worlds {
     /**
      * Something of all that there is. Seven people: 1, 0, 2 on rope 0; 3, 4 on rope 1; 6 on rope 3; 5 on
      * none. Three pieces. Ropes 0, 2 (without people), 1 in the line, 3 not. Sheets 0 and 2 of 16 bits,
-     * 1 of 8, 3 missing. An image of less than that.
+     * 1 of 8, 3 missing. An image of less than that. What was refused was so ahead of most of it.
      */
     static final String[] RICH = {
-        "person(100, 150, 20, 0)", "person(230, 300, 15, 1)", "piece(0, 90, 3, 10)", "rope(5, 5, 2)",
-        "tie(0, 1)", "tie(0, 0)", "join(0)", "start(30)", "seed(5)", "tape w+d", "text(1)", "tape 5*h+w",
-        "tell(1)", "image()",
+        "start(-1)", "start(-1)", "trace(99)", "rope(5, 5, 2)", "as(0, 1)",
+        "person(100, 150, 20, 0)", "person(230, 300, 15, 1)", "piece(0, 90, 3, 10)",
+        "tie(0, 1)", "tie(0, 0)", "join(0)", "join(0)", "join(0)", "join(0)",
+        "start(30)", "seed(5)", "tape w+d", "text(1)", "tape 5*h+w", "tell(1)", "image()",
         "text(0)", "check()",
         "person(60, 40, 30, 0)", "person(90, 90, 10, 1)", "person(75, 500, 25, 1)", "person(120, 20, 40, 0)",
         "person(80, 80, 12, 0)", "piece(5, 60, 20, 40)", "piece(-5, 200, 0, 1)",
@@ -23,16 +24,11 @@ final class Worlds {
         "put(0, 4, 60)", "put(0, 5, 50)", "put(0, 6, 9)", "put(0, 8, 44)",
         "sheet(1, 8, 5)", "put(1, 0, 50)", "put(1, 1, 60)", "put(1, 2, 7)", "put(1, 3, 1)", "put(1, 4, 33)",
         "sheet(2, 16, 4)", "put(2, 0, 90)", "put(2, 1, 80)", "put(2, 2, 7)",
-        "start(-1)", "start(-1)", "trace(99)", "join(0)", "join(0)", "join(0)", "as(0, 1)",
     };
 
-    /**
-     * As much as there may be. Ten people: 0 to 4 on rope 0, 5 to 8 on rope 1, 9 on none. Eight pieces,
-     * six ropes, all in the line; 50 bytes; 20 numbers that wait; a sheet of 40 numbers.
-     */
-    static final String[] FULL = {
-        "image()",
-        "person(100, 150, 20, 0)", "person(230, 300, 15, 1)", "person(60, 40, 30, 0)", "person(90, 90, 10, 1)",
+    /** What leads from one person to as much as there may be. */
+    private static final String[] TO_FULL = {
+        "person(230, 300, 15, 1)", "person(60, 40, 30, 0)", "person(90, 90, 10, 1)",
         "person(75, 500, 25, 1)", "person(120, 20, 40, 0)", "person(80, 80, 12, 0)", "person(81, 82, 13, 1)",
         "person(82, 84, 14, 0)", "person(83, 86, 15, 0)",
         "piece(0, 90, 3, 10)", "piece(5, 60, 20, 40)", "piece(-5, 200, 0, 1)", "piece(1, 10, 1, 2)",
@@ -44,8 +40,20 @@ final class Worlds {
         "tape w" + "+1".repeat(23) + "+10",
         "tell(5)", "tell(6)", "tell(7)", "tell(8)", "tell(0)", "tell(1)", "tell(2)", "tell(3)", "tell(4)",
         "tell(0)", "tell(0)", "tell(0)", "tell(0)", "tell(0)", "tell(0)", "tell(0)", "tell(0)", "tell(0)",
-        "tell(0)", "tell(0)", "voice(3, 1, 9)", "sheet(3, 32, 40)", "put(3, 0, 70)", "put(3, 2, 8)",
+        "tell(0)", "tell(0)", "voice(3, 1, 9)", "sheet(2, 16, 4)", "put(2, 0, 90)", "put(2, 1, 80)", "put(2, 2, 7)",
+        "sheet(3, 32, 40)", "put(3, 0, 70)", "put(3, 2, 8)",
     };
+
+    /**
+     * As much as there may be. Ten people: 0 to 4 on rope 0, 5 to 8 on rope 1, 9 on none. Eight pieces,
+     * six ropes, all in the line; 50 bytes; 20 numbers that wait; a sheet of 40 numbers; an image of little.
+     */
+    static final String[] FULL = with(new String[] {
+        "person(100, 150, 20, 0)", "tape w+l*3", "text(0)", "tape d*2+p", "text(1)", "image()",
+    }, TO_FULL);
+
+    /** The same with an image of nothing and without texts. */
+    static final String[] FULL_FROM_NOTHING = with(new String[] {"image()", "person(100, 150, 20, 0)"}, TO_FULL);
 
     private Worlds() {
     }
