@@ -91,6 +91,8 @@ public final class PeopleBoundsTest {
         B.says(2, "PEOPLE 0, 1, .. (at most 10)");
         B.from(NINE);
         B.takes("person(40, 1, 1, 0)", 9, "count(1)", 10, "ofPerson(9, 0)", 40, "person(41, 1, 1, 0)", Dues.FULL);
+        B.from(Worlds.RICH, "person(40, 1, 1, 0)", "person(40, 1, 1, 0)", "person(40, 1, 1, 0)");
+        B.refuses("person(40, 1, 1, 0)", Dues.FULL);
         B.from(Worlds.FULL);
         B.refuses("person(40, 1, 1, 0)", Dues.FULL);
         B.says(2, "BEYOND. FULL.");
@@ -209,6 +211,8 @@ public final class PeopleBoundsTest {
         B.says(5, "PIECES 0, 1, .. (at most 8)");
         B.from(Worlds.RICH, "piece(0, 1, 2, 3)", "piece(0, 1, 2, 4)", "piece(0, 1, 2, 5)", "piece(0, 1, 2, 6)");
         B.takes("piece(0, 1, 2, 7)", 7, "count(2)", 8, "ofPiece(7, 3)", 7, "piece(0, 1, 2, 8)", Dues.FULL);
+        B.from(Worlds.RICH, Worlds.times(5, "piece(0, 1, 2, 3)"));
+        B.refuses("piece(0, 1, 2, 3)", Dues.FULL);
         B.from(Worlds.FULL);
         B.refuses("piece(0, 1, 2, 3)", Dues.FULL);
         B.says(5, "BEYOND. FULL.");

@@ -43,6 +43,8 @@ public final class RopesBoundsTest {
         B.says(8, "ROPES 0, 1, .. (at most 6)");
         B.from(Worlds.RICH, "rope(0, 1, 0)");
         B.takes("rope(2, 3, 4)", 5, "count(3)", 6, "ofRope(5, 0)", 2, "rope(2, 3, 4)", Dues.FULL);
+        B.from(Worlds.RICH, "rope(0, 1, 0)", "rope(0, 1, 0)");
+        B.refuses("rope(2, 3, 4)", Dues.FULL);
         B.from(Worlds.FULL);
         B.refuses("rope(2, 3, 4)", Dues.FULL);
         B.says(8, "BEYOND. FULL.");
@@ -76,6 +78,9 @@ public final class RopesBoundsTest {
         B.from(Worlds.FULL);
         B.takes("tie(1, 9)", 4, "ofRope(1, 3)", 5, "ofRope(1, 9)", 9);
         B.refuses("tie(0, 9)", Dues.FULL);
+        B.from(Worlds.RICH, "untie(3)", "untie(4)", "tie(0, 4)", "tie(0, 3)");
+        B.refuses("tie(0, 5)", Dues.FULL);
+        B.from(Worlds.FULL);
         B.says(9, "STATE: that one is on a ROPE. FULL: 5.");
         B.refuses("tie(0, 2)", Dues.STATE);
         B.refuses("tie(0, 7)", Dues.STATE);

@@ -79,6 +79,8 @@ public final class ToldBoundsTest {
         B.from(Worlds.EMPTY, "person(50, 5, 6, 0)", "rope(0, 1, 0)", "tie(0, 0)", "join(0)", "start(7)", "tell(0)", "feed(119, 1)");
         B.refuses("restore()", Dues.NONE);
         B.takes("image()", 1, "restore()", 7);
+        B.from(Worlds.without(Worlds.RICH, "image()"));
+        B.refuses("restore()", Dues.NONE);
     }
 
     private static void tell() {
@@ -96,6 +98,8 @@ public final class ToldBoundsTest {
         B.refuses("tell(0)", Dues.FULL);
         B.refuses("tell(MIN)", Dues.FULL);
         B.takes("check()", 10, "tell(0)", 1);
+        B.from(Worlds.RICH, Worlds.times(15, "tell(5)"));
+        B.refuses("tell(5)", Dues.FULL);
     }
 
     /** Those numbers wait, and no others. */

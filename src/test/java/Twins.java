@@ -114,11 +114,9 @@ final class Twins {
 
     /** What stands on sheets shows in who comes from them, how long they are in moves of nothing. */
     private void askSheets() {
+        askComers();
         same("restore");
-        for (int sheet = 0; sheet < 4; sheet++) {
-            same("people", sheet);
-        }
-        askAll("ofPerson", same("count", 1), 4);
+        askComers();
         for (int sheet = 0; sheet < 4; sheet++) {
             for (int to = 0; to < 4; to++) {
                 same("move", sheet, 0, to, 0, 0);
@@ -128,6 +126,13 @@ final class Twins {
                 size++;
             }
         }
+    }
+
+    private void askComers() {
+        for (int sheet : new int[] {2, 0, 1, 3}) {
+            same("people", sheet);
+        }
+        askAll("ofPerson", same("count", 1), 4);
     }
 
     private void askImage() {

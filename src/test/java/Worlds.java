@@ -1,3 +1,7 @@
+import java.util.ArrayList;
+import java.util.Arrays;
+import java.util.List;
+
 /** Calls that make objects, as Script reads them. */
 final class Worlds {
 
@@ -58,8 +62,21 @@ final class Worlds {
     private Worlds() {
     }
 
+    static String[] without(String[] world, String call) {
+        List<String> rest = new ArrayList<>(List.of(world));
+        rest.remove(call);
+        return rest.toArray(new String[0]);
+    }
+
+    /** So often the same call. */
+    static String[] times(int n, String call) {
+        String[] calls = new String[n];
+        Arrays.fill(calls, call);
+        return calls;
+    }
+
     static String[] with(String[] world, String... further) {
-        String[] all = java.util.Arrays.copyOf(world, world.length + further.length);
+        String[] all = Arrays.copyOf(world, world.length + further.length);
         System.arraycopy(further, 0, all, world.length, further.length);
         return all;
     }
