@@ -8,6 +8,7 @@ public final class HoldBoundsTest {
         onNoRope("held", 16, ", 0");
         onNoRope("cost", 17, ", 0");
         onNoRope("haul", 18, ", 0");
+        onTheLastRope();
         atNoPiece("held", 16);
         atNoPiece("cost", 17);
         atNoPiece("haul", 18);
@@ -36,6 +37,21 @@ public final class HoldBoundsTest {
         B.refuses(act + "(7" + piece + ")", Dues.BEYOND);
         B.refuses(act + "(MIN" + piece + ")", Dues.BEYOND);
         B.refuses(act + "(MAX" + piece + ")", Dues.BEYOND);
+    }
+
+    private static void onTheLastRope() {
+        B.from(Worlds.RICH);
+        B.says(15, "on a ROPE: the first, another one, in THE LINE or not");
+        B.takes("hold(0)", 600 + 40, "hold(4)", 90 + 50, "hold(6)", 0, "held(4, 0)", 1, "cost(4, 0)", 0, "haul(4, 0)", 75 * 10 / 92 + 1);
+        B.from(Worlds.FULL, "untie(1)", "tie(5, 9)", "tie(5, 1)");
+        B.says(15, "on a ROPE: the last of six, its last PEOPLE");
+        B.takes("hold(9)", 300 + 80, "hold(1)", 86 + 80);
+        B.says(16, "on a ROPE: the last of six, at the first PIECE and the last");
+        B.takes("held(9, 0)", 1, "held(9, 7)", 1, "held(1, 0)", 0, "held(1, 7)", 0, "held(1, 2)", 1);
+        B.says(17, "on a ROPE: the last of six, at the first PIECE and the last");
+        B.takes("cost(9, 0)", 0, "cost(1, 0)", 2, "cost(1, 7)", 2, "cost(1, 2)", 0);
+        B.says(18, "on a ROPE: the last of six, at the first PIECE and the last");
+        B.takes("haul(9, 0)", 20 + 300, "haul(1, 0)", 20 + 86, "haul(1, 7)", 12 + 86);
     }
 
     private static void atNoPiece(String act, int promise) {
